@@ -1,0 +1,174 @@
+/** Promise 8. */
+public final class MapTest {
+  public static void main(String[] args) {
+    refuses();
+    tells();
+    joins();
+    catchers();
+    looksAgain();
+    latest();
+    afterFaults();
+    Check.end();
+  }
+
+  /** The LOCALS, the height and the STACK of one MAP. */
+  private static void due(String what, JavaChain x, int k, int slot, int pc, int... want) {
+    for (int i = 0; i < 12; i++) {
+      Check.due(what + ", map(" + k + ", " + slot + ", " + pc + ", " + i + ")", want[i], x.map(k, slot, pc, i));
+    }
+  }
+
+  private static void none(String what, JavaChain x, int k, int slot, int pc) {
+    due(what, x, k, slot, pc, -2, -2, -2, -2, -2, -2, -2, -2, -2, -2, -2, -2);
+  }
+
+  private static void refuses() {
+    JavaChain x = Write.ints(Write.PUSH, 1, Write.RETURN, 0);
+    x.define(1, 0);
+    x.verify();
+    Check.thrown("k -1", Check.RANGE, () -> x.map(-1, 0, 0, 0));
+    Check.thrown("k 6", Check.RANGE, () -> x.map(6, 0, 0, 0));
+    Check.thrown("slot -1", Check.RANGE, () -> x.map(0, -1, 0, 0));
+    Check.thrown("slot 4", Check.RANGE, () -> x.map(0, 4, 0, 0));
+    Check.thrown("pc -1", Check.RANGE, () -> x.map(0, 0, -1, 0));
+    Check.thrown("pc 24", Check.RANGE, () -> x.map(0, 0, 24, 0));
+    Check.thrown("i -1", Check.RANGE, () -> x.map(0, 0, 0, -1));
+    Check.thrown("i 12", Check.RANGE, () -> x.map(0, 0, 0, 12));
+    Check.thrown("i before class", Check.RANGE, () -> x.map(5, 0, 0, 12));
+    Check.thrown("class not there", Check.NOT_THERE, () -> x.map(5, 0, 0, 0));
+    Check.thrown("no METHOD", Check.NOT_THERE, () -> x.map(0, 1, 0, 0));
+    Check.thrown("not of its own", Check.NOT_THERE, () -> x.map(1, 0, 0, 0));
+    none("INSTRUCTION that is not there", x, 0, 0, 2);
+    none("the last number", x, 0, 0, 23);
+  }
+
+  private static void tells() {
+    JavaChain x = new JavaChain();
+    x.define(0, -1);
+    x.define(2, 0);
+    x.field(2, 15);
+    x.define(5, -1);
+    x.method(2, 3, Write.ROWS, 10, 15);
+    none("before any VERIFYING", x, 2, 3, 0);
+    Write.code(x, 2, 3, Write.LOAD, 2, Write.EMPTY, 0, Write.STORE, 5, Write.LOAD, 1, Write.SIZE, 0,
+        Write.TWICE, 0, Write.ROW, 0, Write.NEW, 5, Write.DROP, 0, Write.LOAD, 0, Write.GET, 64, Write.RETURN, 0,
+        Write.PUSH, 0);
+    x.verify();
+    due("first", x, 2, 3, 0, 12, 1, 10, -1, -1, -1, 0, -1, -1, -1, -1, -1);
+    due("behind LOAD", x, 2, 3, 1, 12, 1, 10, -1, -1, -1, 1, 10, -1, -1, -1, -1);
+    due("behind EMPTY", x, 2, 3, 2, 12, 1, 10, -1, -1, -1, 2, 10, 2, -1, -1, -1);
+    due("behind STORE", x, 2, 3, 3, 12, 1, 10, -1, -1, 2, 1, 10, -1, -1, -1, -1);
+    due("behind SIZE", x, 2, 3, 5, 12, 1, 10, -1, -1, 2, 2, 10, 0, -1, -1, -1);
+    due("behind TWICE", x, 2, 3, 6, 12, 1, 10, -1, -1, 2, 3, 10, 0, 0, -1, -1);
+    due("behind ROW", x, 2, 3, 7, 12, 1, 10, -1, -1, 2, 3, 10, 0, 1, -1, -1);
+    due("behind NEW", x, 2, 3, 8, 12, 1, 10, -1, -1, 2, 4, 10, 0, 1, 15, -1);
+    due("behind DROP", x, 2, 3, 9, 12, 1, 10, -1, -1, 2, 3, 10, 0, 1, -1, -1);
+    due("behind GET", x, 2, 3, 11, 12, 1, 10, -1, -1, 2, 4, 10, 0, 1, 15, -1);
+    none("never reached", x, 2, 3, 12);
+    others();
+  }
+
+  private static void others() {
+    JavaChain x = Write.single(Write.ROWS, Write.INT, 10, Write.LOAD, 0, Write.CAST, 1, Write.EMPTY, 0,
+        Write.CAST, 1, Write.SAME, 0, Write.LOAD, 1, Write.LOAD, 2, Write.AT, 0, Write.ADD, 0, Write.STORE, 3,
+        Write.LOAD, 0, Write.EMPTY, 0, Write.PUSH, 1, Write.CALL, 0, Write.STORE, 1, Write.LOAD, 0,
+        Write.LOAD, 3, Write.SET, 0, Write.LOAD, 0, Write.RETURN, 0);
+    x.field(0, Write.INT);
+    x.define(1, 0);
+    x.verify();
+    due("behind CAST", x, 0, 0, 2, 10, 1, 0, -1, -1, -1, 1, 11, -1, -1, -1, -1);
+    due("behind CAST of null", x, 0, 0, 4, 10, 1, 0, -1, -1, -1, 2, 11, 11, -1, -1, -1);
+    due("behind SAME", x, 0, 0, 5, 10, 1, 0, -1, -1, -1, 1, 0, -1, -1, -1, -1);
+    due("behind AT", x, 0, 0, 8, 10, 1, 0, -1, -1, -1, 2, 0, 0, -1, -1, -1);
+    due("behind ADD", x, 0, 0, 9, 10, 1, 0, -1, -1, -1, 1, 0, -1, -1, -1, -1);
+    due("behind CALL", x, 0, 0, 14, 10, 1, 0, 0, -1, -1, 1, 10, -1, -1, -1, -1);
+    due("behind SET", x, 0, 0, 18, 10, 10, 0, 0, -1, -1, 0, -1, -1, -1, -1, -1);
+  }
+
+  private static void joins() {
+    JavaChain x = new JavaChain();
+    x.define(0, -1);
+    x.define(1, 0);
+    x.define(2, 0);
+    x.method(0, 0, Write.INT, Write.NONE, Write.INT);
+    Write.code(x, 0, 0, Write.NEW, 1, Write.STORE, 2, Write.PUSH, 1, Write.STORE, 3, Write.EMPTY, 0, Write.STORE, 4,
+        Write.NEW, 1, Write.LOAD, 1, Write.ZERO, 17, Write.DROP, 0, Write.NEW, 2, Write.STORE, 2, Write.EMPTY, 0,
+        Write.STORE, 3, Write.PUSH, 1, Write.ROW, 0, Write.STORE, 4, Write.PUSH, 0, Write.RETURN, 0);
+    Check.thrown("heights", Check.SUPPORT, x::verify);
+    Check.due("where", 16, x.fault(false));
+    JavaChain y = new JavaChain();
+    y.define(0, -1);
+    y.define(1, 0);
+    y.define(2, 0);
+    y.method(0, 0, Write.INT, Write.NONE, Write.INT);
+    Write.code(y, 0, 0, Write.NEW, 1, Write.STORE, 2, Write.PUSH, 1, Write.STORE, 3, Write.EMPTY, 0, Write.STORE, 4,
+        Write.NEW, 1, Write.LOAD, 1, Write.ZERO, 18, Write.STORE, 5, Write.NEW, 2, Write.STORE, 2, Write.EMPTY, 0,
+        Write.STORE, 3, Write.PUSH, 1, Write.ROW, 0, Write.STORE, 4, Write.NEW, 2, Write.DROP, 0, Write.PUSH, 0,
+        Write.RETURN, 0);
+    y.verify();
+    due("where they meet", y, 0, 0, 18, 10, 0, 10, -1, 1, -1, 1, 10, -1, -1, -1, -1);
+    due("behind the meeting", y, 0, 0, 20, 10, 0, 10, -1, 1, -1, 1, 0, -1, -1, -1, -1);
+  }
+
+  private static void catchers() {
+    JavaChain x = Write.ints(Write.PUSH, 1, Write.PUSH, 2, Write.STORE, 3, Write.RETURN, 0,
+        Write.THROW, 0, Write.PUSH, 9, Write.RETURN, 0);
+    x.define(4, -1);
+    x.catcher(0, 0, Write.span(1, 3), 4, 4);
+    x.catcher(0, 0, Write.span(3, 4), 5, Write.ALL);
+    x.verify();
+    due("LOCALS as they were before", x, 0, 0, 4, 10, 0, 0, -1, -1, -1, 1, 14, -1, -1, -1, -1);
+    due("ALL has nothing on the STACK", x, 0, 0, 5, 10, 0, 0, 0, -1, -1, 0, -1, -1, -1, -1, -1);
+    due("around RETURN", x, 0, 0, 3, 10, 0, 0, 0, -1, -1, 1, 0, -1, -1, -1, -1);
+  }
+
+  private static void looksAgain() {
+    JavaChain x = Write.ints(Write.PUSH, 1, Write.STORE, 3, Write.LOAD, 1, Write.ZERO, 7, Write.EMPTY, 0,
+        Write.STORE, 3, Write.GOTO, 2, Write.PUSH, 0, Write.RETURN, 0);
+    x.verify();
+    due("a loop", x, 0, 0, 2, 10, 0, 0, -1, -1, -1, 0, -1, -1, -1, -1, -1);
+    due("behind it, once more", x, 0, 0, 7, 10, 0, 0, -1, -1, -1, 0, -1, -1, -1, -1, -1);
+    due("in it", x, 0, 0, 6, 10, 0, 0, 2, -1, -1, 0, -1, -1, -1, -1, -1);
+    JavaChain self = Write.ints(Write.LOAD, 0, Write.STORE, 1, Write.PUSH, 0, Write.RETURN, 0);
+    self.catcher(0, 0, Write.span(0, 2), 0, Write.ALL);
+    self.verify();
+    due("its own TARGET", self, 0, 0, 0, 10, 0, 0, -1, -1, -1, 0, -1, -1, -1, -1, -1);
+    due("what its MAP was, not what it became", self, 0, 0, 2, 10, 10, 0, -1, -1, -1, 0, -1, -1, -1, -1, -1);
+  }
+
+  private static void latest() {
+    JavaChain x = Write.ints(Write.PUSH, 1, Write.RETURN, 0);
+    x.verify();
+    x.code(0, 0, Write.PUSH, 1);
+    x.define(1, 0);
+    x.method(1, 0, Write.INT, Write.INT, Write.INT);
+    Check.due("the MAPS stay", 1, x.map(0, 0, 1, 6));
+    none("a METHOD put later", x, 1, 0, 0);
+    Check.thrown("a FAULT", Check.SUPPORT, x::verify);
+    Check.due("a METHOD without INSTRUCTIONS is looked at", 11, x.map(1, 0, 0, 0));
+    Check.due("one without a FAULT before", 1, x.map(0, 0, 1, 6));
+  }
+
+  private static void afterFaults() {
+    JavaChain x = Write.ints(Write.PUSH, 1, Write.PUSH, 1, Write.RETURN, 0);
+    x.method(0, 1, Write.INT, Write.INT, Write.INT);
+    Write.code(x, 0, 1, Write.PUSH, 1, Write.RETURN, 0);
+    x.verify();
+    Check.due("looked at", 0, x.map(0, 1, 0, 6));
+    JavaChain y = Write.single(15, -1, Write.INT, Write.PUSH, 1, Write.RETURN, 0);
+    y.method(0, 1, Write.INT, Write.INT, Write.INT);
+    Write.code(y, 0, 1, Write.PUSH, 1, Write.RETURN, 0);
+    y.define(5, -1);
+    y.verify();
+    Check.due("a PARAMETER", 15, y.map(0, 0, 0, 1));
+    y.method(5, 3, 14, Write.NONE, Write.INT);
+    Check.thrown("class 4 is not there", Check.SUPPORT, y::verify);
+    Check.due("the one before", 15, y.map(0, 0, 1, 1));
+    none("FAULT 5 before all else", y, 5, 3, 0);
+    x.method(0, 2, Write.NONE, Write.NONE, Write.INT);
+    x.method(0, 3, Write.NONE, Write.NONE, Write.INT);
+    Write.code(x, 0, 3, Write.PUSH, 1, Write.RETURN, 0);
+    Check.thrown("one without INSTRUCTIONS", Check.SUPPORT, x::verify);
+    none("one behind the FAULT", x, 0, 3, 0);
+  }
+}
