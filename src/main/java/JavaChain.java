@@ -850,7 +850,7 @@ public final class JavaChain {
     }
   }
 
-  /** The OBJECTS and ROWS of one RUNNING; of each value the TYPE and the int or number. */
+  /** The OBJECTS and ROWS of one RUNNING; of each value the int or number, and in FIELDS its TYPE. */
   private static final class Store {
     final int[] sizes = new int[MOST_MADE];
     final int[] types = new int[MOST_MADE * ALL_FIELDS];
@@ -881,7 +881,6 @@ public final class JavaChain {
 
     int makeRow(int size) {
       for (int i = 0; i < size; i++) {
-        types[cell(made, i)] = INT;
         values[cell(made, i)] = 0;
       }
       return addSized(size);

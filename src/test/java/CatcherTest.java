@@ -3,6 +3,7 @@ public final class CatcherTest {
   public static void main(String[] args) {
     refuses();
     catchesInOrder();
+    emptiesTheStack();
     spans();
     endsVerified();
     Check.end();
@@ -56,6 +57,27 @@ public final class CatcherTest {
     Check.thrown("none", Check.STATE, () -> none.run(0, 0, 0, 99, true));
     Check.due("THROWN", 7, none.outcome(0));
     Check.due("of class 2", 2, none.outcome(1));
+  }
+
+  private static void emptiesTheStack() {
+    JavaChain x = Write.ints(Write.PUSH, 1, Write.TWICE, 0, Write.TWICE, 0, Write.TWICE, 0, Write.PUSH, 0,
+        Write.DIV, 0, Write.RETURN, 0, Write.PUSH, 8, Write.TWICE, 0, Write.TWICE, 0, Write.TWICE, 0, Write.TWICE, 0,
+        Write.ADD, 0, Write.RETURN, 0);
+    x.catcher(0, 0, Write.span(5, 6), 7, Write.ALL);
+    Check.due("room for five behind a SIGNAL", 16, x.run(0, 0, 0, 99, true));
+    Check.due("verified", 1, x.verify());
+    JavaChain own = Write.single(Write.NONE, Write.NONE, 10, Write.PUSH, 1, Write.LOAD, 0, Write.THROW, 0,
+        Write.PUSH, 1, Write.TWICE, 0, Write.TWICE, 0, Write.TWICE, 0, Write.DROP, 0, Write.DROP, 0, Write.DROP, 0,
+        Write.DROP, 0, Write.RETURN, 0);
+    own.catcher(0, 0, Write.span(2, 3), 3, 0);
+    Check.due("just the OBJECT, by its own class 0", 0, own.run(0, 0, 0, 99, true));
+    Check.due("OBJECT verified", 1, own.verify());
+    Check.due("OBJECT, not GUARDED", 0, own.run(0, 0, 0, 99, false));
+    JavaChain signal = Write.ints(Write.PUSH, 1, Write.PUSH, 0, Write.DIV, 0, Write.RETURN, 0, Write.DROP, 0,
+        Write.PUSH, 1, Write.RETURN, 0);
+    signal.catcher(0, 0, Write.span(0, 3), 4, 0);
+    Check.thrown("a SIGNAL is of no class", Check.STATE, () -> signal.run(0, 0, 0, 99, true));
+    Check.due("ARITHMETIC", 1, signal.outcome(0));
   }
 
   private static void spans() {

@@ -3,6 +3,8 @@ public final class MapTest {
   public static void main(String[] args) {
     refuses();
     tells();
+    numbers();
+    jumps();
     joins();
     catchers();
     looksAgain();
@@ -83,6 +85,24 @@ public final class MapTest {
     due("behind ADD", x, 0, 0, 9, 10, 1, 0, -1, -1, -1, 1, 0, -1, -1, -1, -1);
     due("behind CALL", x, 0, 0, 14, 10, 1, 0, 0, -1, -1, 1, 10, -1, -1, -1, -1);
     due("behind SET", x, 0, 0, 18, 10, 10, 0, 0, -1, -1, 0, -1, -1, -1, -1, -1);
+  }
+
+  private static void numbers() {
+    for (int operation = Write.ADD; operation <= Write.DIV; operation++) {
+      JavaChain x = Write.ints(Write.LOAD, 1, Write.LOAD, 2, operation, 0, Write.RETURN, 0);
+      x.verify();
+      due("behind " + operation, x, 0, 0, 3, 10, 0, 0, -1, -1, -1, 1, 0, -1, -1, -1, -1);
+    }
+  }
+
+  private static void jumps() {
+    JavaChain x = Write.ints(Write.PUSH, 1, Write.PUSH, 2, Write.PUSH, 3, Write.LESS, 5, Write.GOTO, 5,
+        Write.LOAD, 0, Write.ISNULL, 8, Write.LOAD, 1, Write.ZERO, 8, Write.RETURN, 0);
+    Check.thrown("ISNULL and ZERO leave different heights", Check.SUPPORT, x::verify);
+    due("behind LESS", x, 0, 0, 4, 10, 0, 0, -1, -1, -1, 1, 0, -1, -1, -1, -1);
+    due("where LESS leads", x, 0, 0, 5, 10, 0, 0, -1, -1, -1, 1, 0, -1, -1, -1, -1);
+    due("behind ISNULL", x, 0, 0, 7, 10, 0, 0, -1, -1, -1, 1, 0, -1, -1, -1, -1);
+    due("where ISNULL leads", x, 0, 0, 8, 10, 0, 0, -1, -1, -1, 1, 0, -1, -1, -1, -1);
   }
 
   private static void joins() {

@@ -10,6 +10,7 @@ public final class RunTest {
     objects();
     calls();
     rows();
+    freshRows();
     parameters();
     guards();
     limits();
@@ -138,6 +139,17 @@ public final class RunTest {
     x.field(0, Write.INT);
     x.field(0, 10);
     due("FIELDS are 0 and null, then as SET", 5, x, 5, 0);
+    JavaChain kept = Write.ints(Write.LOAD, 0, Write.LOAD, 1, Write.ROW, 0, Write.SET, 0, Write.LOAD, 0, Write.GET, 0,
+        Write.SIZE, 0, Write.RETURN, 0);
+    kept.field(0, Write.ROWS);
+    due("a FIELD keeps a ROW", 6, kept, 6, 0);
+    JavaChain typed = Write.ints(Write.LOAD, 0, Write.NEW, 1, Write.SET, 0, Write.LOAD, 0, Write.GET, 0, Write.GET, 33,
+        Write.RETURN, 0);
+    typed.field(0, 10);
+    typed.define(1, 0);
+    typed.field(1, Write.INT);
+    Check.due("a value in a FIELD has the TYPE of its own class", 0, typed.run(0, 0, 0, 99, true));
+    Check.thrown("which VERIFYING does not know", Check.SUPPORT, typed::verify);
     for (int made = 0; made < 4; made++) {
       for (int asked = 0; asked < 4; asked++) {
         JavaChain cast = Write.ints(Write.NEW, made, Write.CAST, asked, Write.DROP, 0, Write.PUSH, 1, Write.RETURN, 0);
@@ -190,6 +202,14 @@ public final class RunTest {
     }
   }
 
+  private static void freshRows() {
+    JavaChain x = Write.ints(Write.PUSH, 8, Write.ROW, 0, Write.STORE, 3, Write.LOAD, 3, Write.LOAD, 1, Write.AT, 0,
+        Write.LOAD, 3, Write.LOAD, 1, Write.LOAD, 2, Write.TO, 0, Write.RETURN, 0);
+    due("a new ROW is of 0", 0, x, 7, 5);
+    due("in a later RUNNING too", 0, x, 7, 6);
+    Check.due("what was put there", 6, x.heap(1, 7));
+  }
+
   private static void parameters() {
     JavaChain both = Write.ints(Write.LOAD, 1, Write.PUSH, 100, Write.MUL, 0, Write.LOAD, 2, Write.ADD, 0,
         Write.RETURN, 0);
@@ -212,7 +232,14 @@ public final class RunTest {
     fault("1: too little", 1, 0, Write.ints(Write.RETURN, 0));
     fault("1: more than 5", 1, 5, Write.ints(Write.PUSH, 1, Write.TWICE, 0, Write.TWICE, 0, Write.TWICE, 0,
         Write.TWICE, 0, Write.LOAD, 0, Write.RETURN, 0));
-    fault("2: LOCAL NONE", 2, 0, Write.ints(Write.LOAD, 4, Write.RETURN, 0));
+    for (int local = 1; local < 6; local++) {
+      fault("2: LOCAL NONE without PARAMETERS", 2, 0,
+          Write.single(Write.NONE, Write.NONE, Write.INT, Write.LOAD, local, Write.DROP, 0, Write.PUSH, 1, Write.RETURN, 0));
+    }
+    fault("2: LOCAL NONE behind one", 2, 0,
+        Write.single(Write.INT, Write.NONE, 10, Write.LOAD, 2, Write.RETURN, 0));
+    fault("2: LOCAL NONE behind two", 2, 0,
+        Write.single(Write.INT, Write.INT, 10, Write.LOAD, 3, Write.RETURN, 0));
     fault("2: null is no INT", 2, 1, Write.ints(Write.EMPTY, 0, Write.RETURN, 0));
     fault("2: an OBJECT is no ROW", 2, 1, Write.ints(Write.LOAD, 0, Write.SIZE, 0, Write.RETURN, 0));
     JavaChain kind = Write.ints(Write.PUSH, 1, Write.RETURN, 0);

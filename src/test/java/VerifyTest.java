@@ -123,9 +123,24 @@ public final class VerifyTest {
         Write.TWICE, 0, Write.TWICE, 0, Write.RETURN, 0));
     due("six by PUSH", 1, 5, Write.ints(Write.PUSH, 1, Write.PUSH, 1, Write.PUSH, 1, Write.PUSH, 1,
         Write.PUSH, 1, Write.PUSH, 1, Write.RETURN, 0));
+    due("RETURN with five", 0, 0, full(Write.RETURN));
+    due("LESS with five", 0, 0, full(Write.LESS, Write.RETURN));
+    for (int operation = Write.ADD; operation <= Write.DIV; operation++) {
+      due(operation + " with five", 0, 0, full(operation, Write.RETURN));
+    }
+    due("THROW with five", 0, 0, full(Write.DROP, Write.EMPTY, Write.THROW));
     JavaChain call = Write.single(Write.NONE, Write.NONE, Write.INT, Write.PUSH, 1, Write.TWICE, 0,
         Write.TWICE, 0, Write.TWICE, 0, Write.LOAD, 0, Write.CALL, 0, Write.RETURN, 0);
     due("a CALL takes before it puts", 0, 0, call);
+  }
+
+  /** Five INTS, then these operations; a jump leads to a RETURN of just what LESS leaves. */
+  private static JavaChain full(int... operations) {
+    JavaChain x = Write.ints(Write.PUSH, 1, Write.TWICE, 0, Write.TWICE, 0, Write.TWICE, 0, Write.TWICE, 0);
+    for (int operation : operations) {
+      x.code(0, 0, operation, 6);
+    }
+    return x;
   }
 
   private static void types() {
@@ -296,6 +311,11 @@ public final class VerifyTest {
     above.method(2, 1, -1, -1, 0);
     Write.code(above, 2, 1, Write.PUSH, 1, Write.RETURN, 0);
     due("of a FIELD of the SUPER", 5, 2100, above);
+    JavaChain zero = new JavaChain();
+    zero.define(1, -1);
+    zero.method(1, 0, 10, -1, 0);
+    Write.code(zero, 1, 0, Write.PUSH, 1, Write.RETURN, 0);
+    due("class 0 is not there", 5, 1000, zero);
     JavaChain bare = new JavaChain();
     bare.define(0, -1);
     bare.field(0, 14);
