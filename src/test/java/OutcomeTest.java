@@ -63,7 +63,8 @@ public final class OutcomeTest {
   }
 
   private static void latest() {
-    JavaChain x = Write.ints(Write.LOAD, 1, Write.ZERO, 4, Write.PUSH, 1, Write.RETURN, 0, Write.LOAD, 0, Write.THROW, 0);
+    JavaChain x = Write.ints(Write.LOAD, 1, Write.ZERO, 4, Write.PUSH, 1, Write.RETURN, 0,
+        Write.LOAD, 0, Write.THROW, 0);
     x.verify();
     Check.thrown("THROWN", Check.STATE, () -> x.run(0, 0, 0, 400, false));
     due("THROWN of class 0", x, 7, 0, 4, 1);

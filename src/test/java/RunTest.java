@@ -234,7 +234,8 @@ public final class RunTest {
         Write.TWICE, 0, Write.LOAD, 0, Write.RETURN, 0));
     for (int local = 1; local < 6; local++) {
       fault("2: LOCAL NONE without PARAMETERS", 2, 0,
-          Write.single(Write.NONE, Write.NONE, Write.INT, Write.LOAD, local, Write.DROP, 0, Write.PUSH, 1, Write.RETURN, 0));
+          Write.single(Write.NONE, Write.NONE, Write.INT, Write.LOAD, local, Write.DROP, 0,
+              Write.PUSH, 1, Write.RETURN, 0));
     }
     fault("2: LOCAL NONE behind one", 2, 0,
         Write.single(Write.INT, Write.NONE, 10, Write.LOAD, 2, Write.RETURN, 0));

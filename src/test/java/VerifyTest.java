@@ -162,12 +162,17 @@ public final class VerifyTest {
     for (int operation : new int[] {Write.CAST, Write.THROW, Write.ISNULL}) {
       due("an INT for " + operation, 2, 1,
           Write.ints(Write.PUSH, 0, operation, 0, Write.LOAD, 1, Write.RETURN, 0));
-      due("a ROW for " + operation, operation == Write.ISNULL ? 0 : 2, operation == Write.ISNULL ? 0 : 1,
-          Write.single(1, -1, 1, Write.LOAD, 1, operation, 0, Write.LOAD, 1, Write.RETURN, 0));
-      due("null for " + operation, 0, 0, Write.single(1, -1, 1, Write.EMPTY, 0, operation, operation == Write.ISNULL ? 2 : 0,
-          operation == Write.CAST ? Write.STORE : Write.GOTO, operation == Write.CAST ? 2 : 3, Write.EMPTY, 0,
-          Write.RETURN, 0));
     }
+    for (int operation : new int[] {Write.CAST, Write.THROW}) {
+      due("a ROW for " + operation, 2, 1,
+          Write.single(1, -1, 1, Write.LOAD, 1, operation, 0, Write.LOAD, 1, Write.RETURN, 0));
+    }
+    due("a ROW for ISNULL", 0, 0,
+        Write.single(1, -1, 1, Write.LOAD, 1, Write.ISNULL, 0, Write.LOAD, 1, Write.RETURN, 0));
+    due("null for ISNULL", 0, 0,
+        Write.single(1, -1, 1, Write.EMPTY, 0, Write.ISNULL, 2, Write.EMPTY, 0, Write.RETURN, 0));
+    due("null for CAST", 0, 0, Write.single(1, -1, 10, Write.EMPTY, 0, Write.CAST, 0, Write.RETURN, 0));
+    due("null for THROW", 0, 0, Write.single(1, -1, 10, Write.EMPTY, 0, Write.THROW, 0));
     due("r of AT", 2, 2, Write.ints(Write.LOAD, 0, Write.PUSH, 0, Write.AT, 0, Write.RETURN, 0));
     due("i of AT", 2, 2, Write.single(1, -1, 0, Write.LOAD, 1, Write.LOAD, 1, Write.AT, 0, Write.RETURN, 0));
     due("null for AT", 0, 0, Write.ints(Write.EMPTY, 0, Write.PUSH, 0, Write.AT, 0, Write.RETURN, 0));
@@ -196,7 +201,8 @@ public final class VerifyTest {
     due("GET of a ROW", 2, 1, family(Write.LOAD, 2, Write.GET, 0, Write.RETURN, 0));
     due("GET by a class below", 2, 1, family(Write.LOAD, 0, Write.GET, 32, Write.RETURN, 0));
     due("GET by a class above", 0, 0, family(Write.LOAD, 1, Write.GET, 0, Write.RETURN, 0));
-    due("SET of a class above", 2, 2, family(Write.LOAD, 0, Write.LOAD, 0, Write.SET, 0, Write.LOAD, 0, Write.RETURN, 0));
+    due("SET of a class above", 2, 2,
+        family(Write.LOAD, 0, Write.LOAD, 0, Write.SET, 0, Write.LOAD, 0, Write.RETURN, 0));
     due("SET of the class", 0, 0, family(Write.LOAD, 0, Write.LOAD, 1, Write.SET, 0, Write.LOAD, 0, Write.RETURN, 0));
     due("SET on a ROW", 2, 2, family(Write.LOAD, 2, Write.LOAD, 1, Write.SET, 0, Write.LOAD, 0, Write.RETURN, 0));
     due("CALL", 0, 0,
