@@ -671,6 +671,8 @@ public final class JavaChain {
     // What the MAP was when its INSTRUCTION began to be looked at.
     private final int[] before = new int[WIDTH];
     private final int[] given = new int[WIDTH];
+    // Apart from the MAP, which stays as it was if a JOIN further up is a FAULT.
+    private final int[] joined = new int[WIDTH];
     int where = -1;
     int why = -1;
 
@@ -825,7 +827,7 @@ public final class JavaChain {
       given[HEIGHT]++;
     }
 
-    /** INSTRUCTION pc gets what is given; false if the STACKS do not fit. */
+    /** INSTRUCTION pc gets what is given; false, and it gets nothing, if the STACKS do not fit. */
     private boolean meet(Method m, int pc) {
       int at = pc * WIDTH;
       if (!m.hasMap(pc)) {
@@ -836,15 +838,20 @@ public final class JavaChain {
       if (m.maps[at + HEIGHT] != given[HEIGHT]) {
         return false;
       }
+      boolean changes = false;
+      System.arraycopy(given, 0, joined, 0, WIDTH);
       for (int i = 0; i < STACK + given[HEIGHT]; i++) {
         if (i != HEIGHT) {
-          int joined = world.join(m.maps[at + i], given[i]);
-          if (i >= STACK && joined == NONE) {
+          joined[i] = world.join(m.maps[at + i], given[i]);
+          if (i >= STACK && joined[i] == NONE) {
             return false;
           }
-          m.fresh[pc] = m.fresh[pc] || joined != m.maps[at + i];
-          m.maps[at + i] = joined;
+          changes = changes || joined[i] != m.maps[at + i];
         }
+      }
+      if (changes) {
+        System.arraycopy(joined, 0, m.maps, at, WIDTH);
+        m.fresh[pc] = true;
       }
       return true;
     }

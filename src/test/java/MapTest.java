@@ -10,6 +10,11 @@ public final class MapTest {
     looksAgain();
     latest();
     afterFaults();
+    meetingKeepsLocals();
+    meetingKeepsPlacesBelow();
+    meetingKeepsAtCatcher();
+    meetingKeepsAtHeights();
+    meetingAfterOthers();
     Check.end();
   }
 
@@ -190,5 +195,53 @@ public final class MapTest {
     Write.code(x, 0, 3, Write.PUSH, 1, Write.RETURN, 0);
     Check.thrown("one without INSTRUCTIONS", Check.SUPPORT, x::verify);
     none("one behind the FAULT", x, 0, 3, 0);
+  }
+
+  private static void meets(JavaChain x, int where) {
+    Check.thrown("STACKS that do not fit", Check.SUPPORT, x::verify);
+    Check.due("where", where, x.fault(false));
+    Check.due("why", 3, x.fault(true));
+  }
+
+  private static void meetingKeepsLocals() {
+    JavaChain x = Write.single(Write.INT, Write.NONE, Write.INT, Write.PUSH, 1, Write.STORE, 3, Write.PUSH, 7,
+        Write.LOAD, 1, Write.ZERO, 9, Write.DROP, 0, Write.EMPTY, 0, Write.STORE, 3, Write.EMPTY, 0, Write.RETURN, 0);
+    meets(x, 8);
+    due("a JOIN that is NONE keeps the LOCALS", x, 0, 0, 9, 10, 0, -1, 0, -1, -1, 1, 0, -1, -1, -1, -1);
+    due("the one that gave it", x, 0, 0, 8, 10, 0, -1, 2, -1, -1, 0, -1, -1, -1, -1, -1);
+  }
+
+  private static void meetingKeepsPlacesBelow() {
+    JavaChain x = Write.ints(Write.EMPTY, 0, Write.NEW, 1, Write.PUSH, 7, Write.LOAD, 1, Write.ZERO, 11,
+        Write.DROP, 0, Write.DROP, 0, Write.DROP, 0, Write.LOAD, 0, Write.NEW, 2, Write.EMPTY, 0, Write.RETURN, 0);
+    x.define(1, 0);
+    x.define(2, 0);
+    meets(x, 10);
+    due("and the places below", x, 0, 0, 11, 10, 0, 0, -1, -1, -1, 3, 2, 11, 0, -1, -1);
+  }
+
+  private static void meetingKeepsAtCatcher() {
+    JavaChain x = Write.ints(Write.PUSH, 1, Write.STORE, 3, Write.PUSH, 7, Write.LOAD, 1, Write.ZERO, 9,
+        Write.DROP, 0, Write.EMPTY, 0, Write.STORE, 3, Write.LOAD, 0, Write.THROW, 0);
+    x.catcher(0, 0, Write.span(8, 9), 9, 0);
+    meets(x, 8);
+    due("at the TARGET of a CATCHER too", x, 0, 0, 9, 10, 0, 0, 0, -1, -1, 1, 0, -1, -1, -1, -1);
+  }
+
+  private static void meetingKeepsAtHeights() {
+    JavaChain x = Write.ints(Write.PUSH, 1, Write.STORE, 3, Write.LOAD, 1, Write.ZERO, 7, Write.EMPTY, 0,
+        Write.STORE, 3, Write.PUSH, 7, Write.PUSH, 8, Write.RETURN, 0);
+    meets(x, 6);
+    due("heights that differ keep it", x, 0, 0, 7, 10, 0, 0, 0, -1, -1, 0, -1, -1, -1, -1, -1);
+  }
+
+  private static void meetingAfterOthers() {
+    JavaChain x = Write.ints(Write.PUSH, 1, Write.STORE, 3, Write.PUSH, 7, Write.LOAD, 1, Write.ZERO, 9,
+        Write.DROP, 0, Write.EMPTY, 0, Write.STORE, 3, Write.EMPTY, 0, Write.RETURN, 0, Write.PUSH, 0,
+        Write.RETURN, 0);
+    x.catcher(0, 0, Write.span(8, 9), 10, Write.ALL);
+    meets(x, 8);
+    due("what a TARGET got before stays", x, 0, 0, 10, 10, 0, 0, 2, -1, -1, 0, -1, -1, -1, -1, -1);
+    due("behind", x, 0, 0, 9, 10, 0, 0, 0, -1, -1, 1, 0, -1, -1, -1, -1);
   }
 }
