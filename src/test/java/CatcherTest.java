@@ -2,6 +2,7 @@
 public final class CatcherTest {
   public static void main(String[] args) {
     refuses();
+    edges();
     catchesInOrder();
     emptiesTheStack();
     spans();
@@ -30,6 +31,30 @@ public final class CatcherTest {
     Check.due("second", 2, x.catcher(0, 0, 0, 0, 5));
     Check.thrown("third", Check.STATE, () -> x.catcher(0, 0, 0, 0, 0));
     Check.thrown("third of a bad kind", Check.RANGE, () -> x.catcher(0, 0, 0, 0, 7));
+  }
+
+  /** Class 5, SLOT 3, and the first and last of span, target and kind. */
+  private static void edges() {
+    for (int span : new int[] {0, 1, 31, 32, 1023}) {
+      for (int target : new int[] {0, 23}) {
+        for (int kind = 0; kind < 7; kind++) {
+          JavaChain x = new JavaChain();
+          x.define(5, -1);
+          x.method(5, 3, -1, -1, 0);
+          x.method(5, 2, -1, -1, 0);
+          int last = kind;
+          Check.due("first", 1, x.catcher(5, 3, span, target, kind));
+          Check.due("second", 2, x.catcher(5, 3, span, target, kind));
+          Check.thrown("third", Check.STATE, () -> x.catcher(5, 3, span, target, last));
+          Check.due("another METHOD has its own", 1, x.catcher(5, 2, span, target, kind));
+        }
+      }
+    }
+    JavaChain two = Write.ints(Write.pairs("PUSH 1; PUSH 0; DIV; RETURN; PUSH 5; RETURN"));
+    two.catcher(0, 0, Write.span(0, 0), 4, Write.ALL);
+    two.catcher(0, 0, Write.span(3, 4), 4, Write.ALL);
+    Check.thrown("a third, which would be around it", Check.STATE, () -> two.catcher(0, 0, Write.span(2, 3), 4, 6));
+    Check.ends("is not there", two, 99, true, 1, 0, 3, 1);
   }
 
   /** Throws an OBJECT of class 2, below 1, below 0; what is caught answers 10, else 20. */

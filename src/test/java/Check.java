@@ -29,6 +29,37 @@ final class Check {
     }
   }
 
+  /** VERIFYING finds this FAULT there. */
+  static void fault(String what, int why, int where, JavaChain x) {
+    thrown(what, SUPPORT, x::verify);
+    due(what + ": WHY", why, x.fault(true));
+    due(what + ": WHERE", where, x.fault(false));
+  }
+
+  /** VERIFYING finds no FAULT. */
+  static void faultless(String what, JavaChain x) {
+    try {
+      x.verify();
+    } catch (UnsupportedOperationException e) {
+      tell(what, "no FAULT", x.fault(true) + " at " + x.fault(false));
+    }
+    due(what + ": no WHY", -1, x.fault(true));
+    due(what + ": no WHERE", -1, x.fault(false));
+  }
+
+  /** OUTCOME 0 .. 3 of the latest RUNNING. */
+  static void outcome(String what, JavaChain x, int... want) {
+    for (int i = 0; i < 4; i++) {
+      due(what + ": outcome(" + i + ")", want[i], x.outcome(i));
+    }
+  }
+
+  /** A RUNNING without a RESULT, with OUTCOME 0 .. 3. */
+  static void ends(String what, JavaChain x, int fuel, boolean guarded, int... want) {
+    thrown(what, STATE, () -> x.run(0, 0, 0, fuel, guarded));
+    outcome(what, x, want);
+  }
+
   static void tell(String what, String want, String got) {
     wrong++;
     System.out.println(what + ": due is " + want + ", got " + got);

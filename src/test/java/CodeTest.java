@@ -12,6 +12,7 @@ public final class CodeTest {
     Check.thrown("a 25th", Check.STATE, () -> x.code(0, 2, 25, 0));
     Check.thrown("a 25th of a bad operation", Check.RANGE, () -> x.code(0, 2, 26, 0));
     Check.due("24 are there", 24, x.about(0, 5));
+    edges();
     endsVerified();
     Check.end();
   }
@@ -28,6 +29,31 @@ public final class CodeTest {
     Check.thrown("no METHOD", Check.NOT_THERE, () -> x.code(0, 0, 0, 0));
     Check.thrown("not of its own", Check.NOT_THERE, () -> x.code(1, 2, 0, 0));
     Check.due("none is there", 0, x.about(0, 5));
+  }
+
+  /** Class 5, SLOT 3, operations 0 and 25, any x; 24 fit, and no 25th. */
+  private static void edges() {
+    JavaChain x = new JavaChain();
+    x.define(5, -1);
+    x.method(5, 3, -1, -1, 0);
+    int[] arguments = {Integer.MIN_VALUE, -1, 0, 1, Integer.MAX_VALUE};
+    for (int i = 0; i < 24; i++) {
+      Check.due("INSTRUCTION " + i, i, x.code(5, 3, i % 2 * 25, arguments[i % 5]));
+      Check.due("so many are there", i + 1, x.about(5, 6));
+    }
+    for (int operation = 0; operation < 26; operation++) {
+      int last = operation;
+      Check.thrown("none more", Check.STATE, () -> x.code(5, 3, last, 0));
+    }
+    Check.due("24 are there", 24, x.about(5, 6));
+    x.method(5, 0, -1, -1, 0);
+    Check.due("another METHOD has its own", 0, x.code(5, 0, 0, 0));
+    for (int argument : arguments) {
+      JavaChain pushed = Write.ints();
+      pushed.code(0, 0, Write.PUSH, argument);
+      pushed.code(0, 0, Write.RETURN, -argument);
+      Check.due("PUSH " + argument, argument, pushed.run(0, 0, 0, 9, true));
+    }
   }
 
   private static void endsVerified() {

@@ -2,6 +2,8 @@
 public final class DefineTest {
   public static void main(String[] args) {
     counts();
+    everyBase();
+    full();
     refuses();
     endsVerified();
     Check.end();
@@ -17,6 +19,44 @@ public final class DefineTest {
     Check.due("define(3, 2)", 6, x.define(3, 2));
     Check.due("SUPER of 5", 2, x.about(5, 1));
     Check.due("SUPER of 2", -1, x.about(2, 1));
+  }
+
+  /** "the SUPER, base, is neither -1 nor a lesser number that is there": for each k and base, with and without it. */
+  private static void everyBase() {
+    for (int k = 0; k < 6; k++) {
+      for (int base = -1; base < 6; base++) {
+        int of = base;
+        int number = k;
+        JavaChain alone = new JavaChain();
+        JavaChain both = new JavaChain();
+        if (base != -1 && base != k) {
+          both.define(base, -1);
+        }
+        if (base == -1) {
+          Check.due("class " + k + " without a SUPER", 1, alone.define(k, base));
+        } else {
+          Check.thrown("class " + k + ", SUPER " + base + " is not there", Check.STATE, () -> alone.define(number, of));
+        }
+        if (base == -1 || base < k) {
+          Check.due("class " + k + ", SUPER " + base, base == -1 ? 1 : 2, both.define(k, base));
+          Check.due("it is there", 1, both.about(k, 0));
+          Check.due("its SUPER", base, both.about(k, 1));
+        } else {
+          Check.thrown("class " + k + ", SUPER " + base, Check.STATE, () -> both.define(number, of));
+          Check.due("it is not there", 0, both.about(k, 0));
+        }
+      }
+    }
+  }
+
+  private static void full() {
+    JavaChain x = Write.chain();
+    for (int i = 0; i < 6; i++) {
+      int k = i;
+      Check.due("its SUPER", k - 1, x.about(k, 1));
+      Check.thrown("all six are there", Check.STATE, () -> x.define(k, -1));
+      Check.thrown("all six are there, the same SUPER", Check.STATE, () -> x.define(k, k - 1));
+    }
   }
 
   private static void refuses() {

@@ -2,6 +2,7 @@
 public final class FieldTest {
   public static void main(String[] args) {
     numbers();
+    supersGetNone();
     refuses();
     endsVerified();
     Check.end();
@@ -28,6 +29,37 @@ public final class FieldTest {
     Check.due("in all", 5, x.about(3, 2));
   }
 
+  /** "or is a SUPER": of any class below, with room for FIELDS or not. */
+  private static void supersGetNone() {
+    for (int k = 0; k < 5; k++) {
+      for (int low = k + 1; low < 6; low++) {
+        for (int fields = 0; fields < 3; fields++) {
+          JavaChain x = new JavaChain();
+          x.define(k, -1);
+          for (int f = 0; f < fields; f++) {
+            x.field(k, 0);
+          }
+          int number = k;
+          Check.due("not yet a SUPER", fields, x.field(k, 0));
+          JavaChain y = new JavaChain();
+          y.define(k, -1);
+          for (int f = 0; f < fields; f++) {
+            y.field(k, 0);
+          }
+          y.define(low, k);
+          Check.thrown(k + " is the SUPER of " + low, Check.STATE, () -> y.field(number, 0));
+          Check.due("the one below has room", fields, y.field(low, 0));
+          Check.due("FIELDS of the SUPER", fields, y.about(k, 2));
+        }
+      }
+    }
+    JavaChain beside = new JavaChain();
+    beside.define(0, -1);
+    beside.define(1, -1);
+    beside.define(2, 1);
+    Check.due("a class beside is no SUPER", 0, beside.field(0, 0));
+  }
+
   private static void refuses() {
     JavaChain x = new JavaChain();
     x.define(0, -1);
@@ -35,7 +67,7 @@ public final class FieldTest {
       Check.thrown("type " + type, Check.RANGE, () -> x.field(0, type));
       Check.thrown("type " + type + " before the class", Check.RANGE, () -> x.field(1, type));
     }
-    for (int type = 10; type < 16; type++) {
+    for (int type : new int[] {0, 1, 10, 11, 12, 13, 14, 15}) {
       JavaChain fresh = new JavaChain();
       fresh.define(0, -1);
       Check.due("type " + type, 0, fresh.field(0, type));

@@ -29,7 +29,62 @@ public final class HeapTest {
     x.field(1, Write.INT);
     outside(x, 1, 3);
     stays(x);
+    emptyOnes();
+    mostOfAll();
+    references();
     Check.end();
+  }
+
+  /** An OBJECT without FIELDS and a ROW of none have nothing to tell. */
+  private static void emptyOnes() {
+    JavaChain x = Write.ints("PUSH 0; ROW; DROP; PUSH 8; ROW; STORE 3; LOAD 3; PUSH 7; PUSH 5; TO; PUSH 1; RETURN");
+    x.run(0, 0, 0, 99, true);
+    Check.due("three are made", 3, x.outcome(3));
+    outside(x, 0, 0);
+    outside(x, 1, 0);
+    Check.due("the first int of eight", 0, x.heap(2, 0));
+    Check.due("the last int of eight", 5, x.heap(2, 7));
+    outside(x, 2, 8);
+    Check.thrown("no fourth", Check.INDEX, () -> x.heap(3, 0));
+    Check.thrown("before the first", Check.INDEX, () -> x.heap(-1, 7));
+  }
+
+  /** 40 OBJECTS of 18 FIELDS: number 39 and FIELD 17 are the last. */
+  private static void mostOfAll() {
+    JavaChain x = new JavaChain();
+    for (int k = 0; k < 6; k++) {
+      x.define(k, k - 1);
+      for (int f = 0; f < 3; f++) {
+        x.field(k, f == 2 ? 15 : Write.INT);
+      }
+    }
+    x.method(5, 0, Write.INT, Write.INT, Write.INT);
+    Write.code(x, 5, 0, "NEW 5; STORE 3; LOAD 1; PUSH 1; SUB; STORE 1; LOAD 1; ZERO 9; GOTO 0; LOAD 3; LOAD 2; SET 176"
+        + "; LOAD 3; LOAD 3; SET 177; LOAD 3; GET 177; GET 176; RETURN");
+    Check.due("the 40th", 6, x.run(5, 39, 6, 400, true));
+    Check.due("made", 40, x.outcome(3));
+    for (int f = 0; f < 18; f++) {
+      Check.due("FIELD " + f + " of the 40th", f == 17 ? 39 : f == 16 ? 6 : f % 3 == 2 ? -1 : 0, x.heap(39, f));
+      Check.due("FIELD " + f + " of the first", f % 3 == 2 ? -1 : 0, x.heap(0, f));
+    }
+    outside(x, 39, 18);
+    outside(x, 0, 18);
+    Check.thrown("no 41st", Check.INDEX, () -> x.heap(40, 0));
+    x.verify();
+    Check.due("the 40th, not GUARDED", -6, x.run(5, 39, -6, 400, false));
+    Check.due("its FIELD", -6, x.heap(39, 16));
+  }
+
+  /** "an int, or as for run": an int -1 and null are told alike, and so are an int and a number. */
+  private static void references() {
+    JavaChain x = Write.ints("LOAD 0; PUSH -1; SET 0; LOAD 0; LOAD 0; SET 2; PUSH 1; RETURN");
+    x.field(0, Write.INT);
+    x.field(0, Write.ROWS);
+    x.field(0, 10);
+    x.run(0, 0, 0, 99, true);
+    Check.due("an int", -1, x.heap(0, 0));
+    Check.due("null", -1, x.heap(0, 1));
+    Check.due("itself", 0, x.heap(0, 2));
   }
 
   private static void outside(JavaChain x, int n, int i) {

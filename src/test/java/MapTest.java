@@ -2,6 +2,9 @@
 public final class MapTest {
   public static void main(String[] args) {
     refuses();
+    everyHeight();
+    lastOfAll();
+    forgetsEarlierOnes();
     tells();
     numbers();
     jumps();
@@ -47,6 +50,62 @@ public final class MapTest {
     Check.thrown("not of its own", Check.NOT_THERE, () -> x.map(1, 0, 0, 0));
     none("INSTRUCTION that is not there", x, 0, 0, 2);
     none("the last number", x, 0, 0, 23);
+  }
+
+  /** "6 the STACK's height, 7 + j the TYPE of place j from below, -1 behind" */
+  private static void everyHeight() {
+    JavaChain x = Write.single(Write.ROWS, Write.INT, Write.INT,
+        "LOAD 0; LOAD 1; EMPTY; NEW 3; LOAD 2; DROP; DROP; DROP; DROP; DROP; PUSH 1; RETURN");
+    x.define(3, 0);
+    x.verify();
+    int[] stack = {10, 1, 2, 13, 0};
+    for (int pc = 0; pc < 11; pc++) {
+      int height = pc < 5 ? pc : 10 - pc;
+      Check.due("height at " + pc, height, x.map(0, 0, pc, 6));
+      for (int j = 0; j < 5; j++) {
+        Check.due("place " + j + " at " + pc, j < height ? stack[j] : -1, x.map(0, 0, pc, 7 + j));
+      }
+    }
+  }
+
+  /** Class 5, SLOT 3, pc 23, i 11. */
+  private static void lastOfAll() {
+    JavaChain x = new JavaChain();
+    x.define(5, -1);
+    Write.method(x, 5, 3, "GOTO 1; " + "PUSH 1; DROP; ".repeat(8) + "PUSH 1; PUSH 1; PUSH 1; NEW 5; PUSH 1"
+        + "; GOTO 23; RETURN");
+    Check.due("24 INSTRUCTIONS", 24, x.about(5, 6));
+    x.verify();
+    due("the last MAP", x, 5, 3, 23, 15, -1, -1, -1, -1, -1, 5, 0, 0, 0, 15, 0);
+  }
+
+  /** "of the MAP of the latest VERIFYING, of a METHOD that was looked at" */
+  private static void forgetsEarlierOnes() {
+    JavaChain y = Write.family();
+    for (int k = 0; k < 6; k++) {
+      for (int slot = 0; slot < 4; slot++) {
+        Write.method(y, k, slot, "PUSH 1; STORE 3; PUSH 1; RETURN");
+      }
+    }
+    y.verify();
+    Check.due("the first", 10, y.map(0, 0, 0, 0));
+    Check.due("the last", 15, y.map(5, 3, 3, 0));
+    y.catcher(2, 1, Write.span(3, 4), 23, Write.ALL);
+    Check.due("a CATCHER does not change the MAPS", 1, y.map(5, 3, 3, 6));
+    Check.thrown("its TARGET is not there", Check.SUPPORT, y::verify);
+    Check.due("one before", 1, y.map(2, 0, 3, 6));
+    Check.due("the one with the FAULT, at it", 1, y.map(2, 1, 3, 6));
+    for (int[] behind : new int[][] {{2, 2}, {2, 3}, {3, 0}, {5, 3}}) {
+      none("not looked at by the latest", y, behind[0], behind[1], 0);
+      none("not looked at by the latest", y, behind[0], behind[1], 3);
+    }
+    JavaChain z = Write.ints("LOAD 1; ZERO 4; NEW 4; STORE 3; PUSH 1; RETURN");
+    Check.thrown("class 4 is not there", Check.SUPPORT, z::verify);
+    due("what x got", z, 0, 0, 4, 10, 0, 0, -1, -1, -1, 0, -1, -1, -1, -1, -1);
+    z.field(0, 14);
+    Check.thrown("nor for a FIELD", Check.SUPPORT, z::verify);
+    none("nothing is left of the one before", z, 0, 0, 0);
+    none("nor where x leads", z, 0, 0, 4);
   }
 
   private static void tells() {

@@ -2,8 +2,12 @@
 public final class MethodTest {
   public static void main(String[] args) {
     counts();
+    everyType();
+    lastNumbers();
     refusesNumbers();
     refusesOtherFaces();
+    everyOtherFace();
+    farAboveAndBelow();
     endsVerified();
     Check.end();
   }
@@ -18,6 +22,29 @@ public final class MethodTest {
     Check.due("without INSTRUCTIONS", 0, x.about(0, 4));
     x.define(1, 0);
     Check.due("only its own are counted", 1, x.method(1, 0, 1, -1, 15));
+  }
+
+  /** "one, two -1 or a TYPE", the RESULT a TYPE: 0, 1, 10 .. 15, of classes that are there or not. */
+  private static void everyType() {
+    int[] types = {0, 1, 10, 11, 12, 13, 14, 15};
+    for (int type : types) {
+      JavaChain x = new JavaChain();
+      x.define(0, -1);
+      Check.due("one " + type, 1, x.method(0, 0, type, -1, 0));
+      Check.due("one and two " + type, 2, x.method(0, 1, type, type, 0));
+      Check.due("two " + type, 3, x.method(0, 2, 0, type, 0));
+      Check.due("result " + type, 4, x.method(0, 3, -1, -1, type));
+    }
+  }
+
+  private static void lastNumbers() {
+    JavaChain x = new JavaChain();
+    x.define(5, -1);
+    Check.due("class 5, SLOT 3", 1, x.method(5, 3, 15, 15, 15));
+    Check.due("without INSTRUCTIONS", 0, x.about(5, 6));
+    for (int slot = 0; slot < 3; slot++) {
+      Check.due("none for SLOT " + slot, -1, x.about(5, 3 + slot));
+    }
   }
 
   private static void refusesNumbers() {
@@ -58,6 +85,52 @@ public final class MethodTest {
     Check.thrown("far above", Check.STATE, () -> x.method(2, 1, 1, 1, 0));
     Check.due("the same", 1, x.method(2, 0, 0, -1, 0));
     Check.due("the same, far above", 2, x.method(2, 1, 1, 1, 1));
+  }
+
+  /** Two ones above or below one another have all of their PARAMETERS and the RESULT alike, or are refused. */
+  private static void everyOtherFace() {
+    int[][] faces = {{-1, -1, 0}, {-1, -1, 1}, {0, -1, 0}, {0, -1, 1}, {1, -1, 0}, {0, 0, 0}, {0, 1, 0}, {1, 0, 0},
+        {0, 0, 10}, {10, 0, 0}, {11, 0, 0}};
+    for (int[] high : faces) {
+      for (int[] low : faces) {
+        faces(0, high, 3, low);
+        faces(3, low, 0, high);
+      }
+    }
+  }
+
+  private static void faces(int first, int[] one, int second, int[] other) {
+    JavaChain x = new JavaChain();
+    x.define(0, -1);
+    x.define(3, 0);
+    x.method(first, 2, one[0], one[1], one[2]);
+    if (one == other) {
+      Check.due("the same", 1, x.method(second, 2, other[0], other[1], other[2]));
+    } else {
+      Check.thrown("another one", Check.STATE, () -> x.method(second, 2, other[0], other[1], other[2]));
+      Check.due("it is not there", -1, x.about(second, 5));
+    }
+    Check.due("another SLOT", one == other ? 2 : 1, x.method(second, 1, other[0], other[1], other[2]));
+  }
+
+  /** "above or below": however far, and not beside. */
+  private static void farAboveAndBelow() {
+    for (int i = 0; i < 6; i++) {
+      for (int j = 0; j < 6; j++) {
+        int other = j;
+        JavaChain chain = Write.chain();
+        chain.method(i, 0, 0, -1, 0);
+        Check.thrown("in a chain " + i + " " + j, Check.STATE, () -> chain.method(other, 0, 1, -1, 0));
+        JavaChain family = Write.family();
+        family.method(i, 0, 0, -1, 0);
+        boolean related = "00 01 02 03 04 11 12 13 22 33 44 55".contains("" + Math.min(i, j) + Math.max(i, j));
+        if (related) {
+          Check.thrown("related " + i + " " + j, Check.STATE, () -> family.method(other, 0, 1, -1, 0));
+        } else {
+          Check.due("beside " + i + " " + j, 1, family.method(j, 0, 1, -1, 0));
+        }
+      }
+    }
   }
 
   private static void endsVerified() {

@@ -23,6 +23,7 @@ public final class OutcomeTest {
     fuel();
     made();
     latest();
+    eachAfterEach();
     Check.end();
   }
 
@@ -74,5 +75,37 @@ public final class OutcomeTest {
     due("still the latest", x, 7, 0, 4, 1);
     Check.due("another one", 1, x.run(0, 1, 0, 400, true));
     due("another one", x, 0, 0, 4, 1);
+  }
+
+  /** "Of the latest RUNNING": nothing is left of the one before, whichever it was. */
+  private static void eachAfterEach() {
+    JavaChain x = Write.family();
+    Write.method(x, 0, 0, "PUSH 5; RETURN");
+    x.method(1, 0, Write.NONE, Write.NONE, Write.INT);
+    Write.code(x, 1, 0, "NEW 0; NEW 3; THROW");
+    x.method(2, 0, Write.NONE, Write.NONE, Write.INT);
+    Write.code(x, 2, 0, "NEW 0; NEW 0; NEW 0; ADD; RETURN");
+    x.method(3, 0, Write.NONE, Write.NONE, Write.INT);
+    Write.code(x, 3, 0, "NEW 0; DROP; GOTO 0");
+    x.method(4, 0, Write.NONE, Write.NONE, Write.INT);
+    Write.code(x, 4, 0, "NEW 0; DROP; GOTO 2");
+    x.method(5, 0, Write.NONE, Write.NONE, Write.INT);
+    Write.code(x, 5, 0, "EMPTY; THROW");
+    int[][] want = {{0, 0, 2, 1}, {7, 3, 3, 3}, {8, 2, 3, 4}, {6, 0, 118, 40}, {5, 0, 200, 2}, {2, 0, 2, 1}};
+    for (int before = 0; before < 6; before++) {
+      for (int after = 0; after < 6; after++) {
+        ends(x, before, want[before]);
+        ends(x, after, want[after]);
+      }
+    }
+  }
+
+  private static void ends(JavaChain x, int k, int[] want) {
+    if (want[0] == 0) {
+      Check.due("a RESULT", 5, x.run(k, 0, 0, 200, true));
+    } else {
+      Check.thrown("OUTCOME " + want[0], Check.STATE, () -> x.run(k, 0, 0, 200, true));
+    }
+    due("OUTCOME " + want[0], x, want);
   }
 }

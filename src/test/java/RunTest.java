@@ -4,6 +4,9 @@ public final class RunTest {
 
   public static void main(String[] args) {
     refuses();
+    edgesOfNumbers();
+    everyParameter();
+    verifiedOrGuarded();
     numbers();
     jumps();
     references();
@@ -58,6 +61,59 @@ public final class RunTest {
     x.verify();
     Check.thrown("no METHOD, VERIFIED", Check.INDEX, () -> x.run(1, 0, 0, 1, false));
     Check.due("VERIFIED", 7, x.run(3, 7, 0, 400, false));
+  }
+
+  /** "fuel 1 .. 400", class 5, and any a and b. */
+  private static void edgesOfNumbers() {
+    JavaChain x = new JavaChain();
+    x.define(5, -1);
+    x.method(5, 0, Write.INT, Write.INT, Write.INT);
+    Write.code(x, 5, 0, "LOAD 1; LOAD 2; SUB; RETURN");
+    x.verify();
+    for (boolean guarded : new boolean[] {true, false}) {
+      Check.due("FUEL 400", 4, x.run(5, 9, 5, 400, guarded));
+      Check.due("FUEL 4", 4, x.run(5, 9, 5, 4, guarded));
+      Check.thrown("FUEL 1", Check.STATE, () -> x.run(5, 9, 5, 1, guarded));
+      Check.outcome("FUEL 1", x, 5, 0, 1, 1);
+      Check.due("the least a", MIN, x.run(5, MIN, 0, 9, guarded));
+      Check.due("the most b", MIN + 1, x.run(5, 0, Integer.MAX_VALUE, 9, guarded));
+    }
+  }
+
+  /** "PARAMETERS that are INT are a and then b, others null": told by METHOD 1, which gets them in its FIELDS. */
+  private static void everyParameter() {
+    int[] types = {-1, 0, 1, 10};
+    for (int one : types) {
+      for (int two : one == -1 ? new int[] {-1} : types) {
+        JavaChain x = new JavaChain();
+        x.define(0, -1);
+        x.field(0, one == -1 ? 0 : one);
+        x.field(0, two == -1 ? 0 : two);
+        x.method(0, 0, one, two, 0);
+        Write.code(x, 0, 0, (one == -1 ? "" : "LOAD 0; LOAD 1; SET 0; ") + (two == -1 ? "" : "LOAD 0; LOAD 2; SET 1; ")
+            + "PUSH 3; RETURN");
+        String what = "PARAMETERS " + one + " " + two;
+        Check.due(what, 3, x.run(0, 61, 62, 99, true));
+        Check.due(what + ": one", one == -1 ? 0 : one == 0 ? 61 : -1, x.heap(0, 0));
+        Check.due(what + ": two", two == -1 ? 0 : two == 0 ? (one == 0 ? 62 : 61) : -1, x.heap(0, 1));
+      }
+    }
+  }
+
+  /** "Not GUARDED, and not VERIFIED: UnsupportedOperationException" */
+  private static void verifiedOrGuarded() {
+    JavaChain x = Write.ints("LOAD 1; RETURN");
+    Check.thrown("never VERIFIED", Check.SUPPORT, () -> x.run(0, 5, 0, 9, false));
+    Check.due("GUARDED", 5, x.run(0, 5, 0, 9, true));
+    Check.thrown("a RUNNING does not verify", Check.SUPPORT, () -> x.run(0, 5, 0, 9, false));
+    x.verify();
+    Check.due("VERIFIED", 6, x.run(0, 6, 0, 9, false));
+    Check.due("VERIFIED and GUARDED", 7, x.run(0, 7, 0, 9, true));
+    Check.due("still VERIFIED", 8, x.run(0, 8, 0, 9, false));
+    x.method(0, 3, Write.NONE, Write.NONE, Write.INT);
+    Check.thrown("a FAULT in another METHOD", Check.SUPPORT, x::verify);
+    Check.thrown("nothing is VERIFIED", Check.SUPPORT, () -> x.run(0, 8, 0, 9, false));
+    Check.due("but GUARDED", 9, x.run(0, 9, 0, 9, true));
   }
 
   private static void pair(int operation, int a, int b, int want) {

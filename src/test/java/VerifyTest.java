@@ -10,6 +10,9 @@ public final class VerifyTest {
     orderOfFaults();
     orderOfMethods();
     classesOfTypes();
+    everyClassOfTypes();
+    beforeAllElse();
+    onceMore();
     Check.end();
   }
 
@@ -326,5 +329,98 @@ public final class VerifyTest {
     bare.define(0, -1);
     bare.field(0, 14);
     due("of a class without a METHOD", 0, 0, bare);
+  }
+
+  /** "the TYPES of a METHOD's PARAMETERS and RESULT, of all FIELDS of the class, its SUPER's too" */
+  private static void everyClassOfTypes() {
+    for (int missing = 0; missing < 6; missing++) {
+      for (int where = 0; where < 6; where++) {
+        int k = missing == 1 ? 2 : 1;
+        JavaChain x = withType(10 + missing, where, k);
+        String what = "class " + missing + " at " + where;
+        due(what, 5, 1000 * k + 200, x);
+        Check.due(what + ": no MAP", -2, x.map(k, 2, 0, 0));
+        x.define(missing, -1);
+        due(what + ", now it is there", 0, 0, x);
+        Check.due(what + ": a MAP", 10 + k, x.map(k, 2, 0, 0));
+      }
+    }
+    JavaChain own = Write.single(10, 10, 10, "LOAD 1; RETURN");
+    own.field(0, 10);
+    due("its own class is there", 0, 0, own);
+    JavaChain other = Write.ints("PUSH 1; RETURN");
+    other.define(1, 0);
+    other.field(1, 15);
+    other.define(2, -1);
+    other.field(2, 14);
+    due("FIELDS of one below or beside, without METHODS", 0, 0, other);
+  }
+
+  /** The TYPE is that of one, of two, of the RESULT, or of the first, the last or a SUPER's FIELD. */
+  private static JavaChain withType(int type, int where, int k) {
+    JavaChain x = new JavaChain();
+    boolean inherits = where == 5;
+    if (inherits && type != 10) {
+      x.define(0, -1);
+      x.field(0, type);
+      x.define(k, 0);
+    } else {
+      x.define(k, -1);
+      x.field(k, where >= 3 && where != 4 ? type : 0);
+      x.field(k, 1);
+      x.field(k, where == 4 ? type : 0);
+    }
+    int result = where == 2 ? type : 0;
+    x.method(k, 2, where == 0 ? type : 0, where == 1 ? type : 1, result);
+    Write.code(x, k, 2, result == 0 ? "PUSH 1; RETURN" : "EMPTY; RETURN");
+    return x;
+  }
+
+  /** "FAULT 5 at INSTRUCTION 0, before all else" of the METHOD; METHODS before it come first. */
+  private static void beforeAllElse() {
+    due("before 4", 5, 0, Write.single(11, -1, 0, ""));
+    due("before 5 elsewhere", 5, 0, Write.single(11, -1, 0, "PUSH 1; LOAD 9; RETURN"));
+    due("before 1", 5, 0, Write.single(11, -1, 0, "ADD; RETURN"));
+    due("before 2", 5, 0, Write.single(11, -1, 0, "LOAD 5; RETURN"));
+    JavaChain caught = Write.single(11, -1, 0, "PUSH 1; RETURN");
+    caught.catcher(0, 0, Write.span(0, 2), 9, 3);
+    due("before a CATCHER's", 5, 0, caught);
+    JavaChain before = Write.ints("PUSH 1; ADD; RETURN");
+    before.method(0, 1, 15, Write.NONE, Write.INT);
+    due("not before a METHOD before it", 1, 1, before);
+    JavaChain behind = Write.ints("PUSH 1; RETURN");
+    behind.method(0, 2, Write.NONE, Write.NONE, 15);
+    behind.method(0, 3, Write.NONE, Write.NONE, 14);
+    behind.method(0, 1, Write.INT, Write.NONE, Write.INT);
+    due("SLOT 1 has no INSTRUCTIONS", 4, 100, behind);
+    Write.code(behind, 0, 1, "LOAD 1; RETURN");
+    due("then SLOT 2", 5, 200, behind);
+    behind.define(5, -1);
+    due("which has no INSTRUCTIONS either", 4, 200, behind);
+  }
+
+  /** VERIFYING begins anew each time, whatever an earlier one found. */
+  private static void onceMore() {
+    JavaChain x = Write.ints();
+    due("no INSTRUCTION", 4, 0, x);
+    x.code(0, 0, Write.PUSH, 1);
+    due("none behind", 4, 0, x);
+    x.code(0, 0, Write.NEW, 4);
+    due("none behind the next", 4, 1, x);
+    x.code(0, 0, Write.ADD, 0);
+    due("no class 4", 5, 1, x);
+    x.define(4, -1);
+    due("none behind ADD", 4, 2, x);
+    x.code(0, 0, Write.RETURN, 0);
+    due("an OBJECT for ADD", 2, 2, x);
+    due("again", 2, 2, x);
+    JavaChain fine = Write.ints("PUSH 1; RETURN; RETURN");
+    due("fine", 0, 0, fine);
+    Check.due("the same answer again", 1, fine.verify());
+    Check.due("VERIFIED", 1, fine.run(0, 0, 0, 9, false));
+    fine.catcher(0, 0, Write.span(1, 2), 2, Write.ALL);
+    due("a CATCHER leads to a FAULT", 1, 2, fine);
+    Check.thrown("nothing is VERIFIED", Check.SUPPORT, () -> fine.run(0, 0, 0, 9, false));
+    Check.due("GUARDED it runs all the same", 1, fine.run(0, 0, 0, 9, true));
   }
 }
