@@ -38,13 +38,7 @@ public final class TermsClassesTest {
   }
 
   private static JavaChain asksForField(int k, int f) {
-    JavaChain x = new JavaChain();
-    for (int i = 0; i < 6; i++) {
-      x.define(i, i - 1);
-      x.field(i, Write.INT);
-      x.field(i, Write.INT);
-      x.field(i, Write.INT);
-    }
+    JavaChain x = Write.eighteen();
     Write.method(x, 5, 0, "LOAD 0; GET " + (32 * k + f) + "; RETURN");
     return x;
   }
@@ -61,7 +55,7 @@ public final class TermsClassesTest {
     x.field(2, Write.ROWS);
     x.field(2, 10);
     Write.method(x, 2, 0, "LOAD 0; GET 64; LOAD 0; GET 65; LOAD 0; GET 66; LOAD 0; GET 67; LOAD 0; GET 68; PUSH 1");
-    Check.fault("a sixth on the STACK", 4, 2010, x);
+    Check.fault("none behind the last", 4, 2010, x);
     int[] want = {Write.ROWS, Write.INT, 12, Write.ROWS, 10};
     for (int f = 0; f < 5; f++) {
       Check.due("TYPE of FIELD " + f, want[f], x.map(2, 0, 10, 7 + f));
@@ -119,8 +113,8 @@ public final class TermsClassesTest {
 
   /** "A METHOD has none, one or two PARAMETERS": a CALL takes just as many. */
   private static void noParametersOneOrTwo() {
-    JavaChain x = Write.ints("PUSH 1000; LOAD 0; CALL 1; ADD; LOAD 0; LOAD 1; CALL 2; ADD; LOAD 0; LOAD 1; LOAD 2; CALL 3"
-        + "; ADD; RETURN");
+    JavaChain x = Write.ints("PUSH 1000; LOAD 0; CALL 1; ADD; LOAD 0; LOAD 1; CALL 2; ADD; LOAD 0; LOAD 1; LOAD 2"
+        + "; CALL 3; ADD; RETURN");
     Write.method(x, 0, 1, "PUSH 1; RETURN");
     x.method(0, 2, Write.INT, Write.NONE, Write.INT);
     Write.code(x, 0, 2, "LOAD 1; PUSH 10; MUL; RETURN");
@@ -137,7 +131,8 @@ public final class TermsClassesTest {
     for (int i = 0; i < 6; i++) {
       stores.append("PUSH ").append(1 << i).append("; STORE ").append(i).append("; ");
     }
-    JavaChain x = Write.ints(stores + "LOAD 0; LOAD 1; ADD; LOAD 2; LOAD 3; ADD; LOAD 4; ADD; LOAD 5; ADD; ADD; RETURN");
+    JavaChain x = Write.ints(stores + "LOAD 0; LOAD 1; ADD; LOAD 2; LOAD 3; ADD; LOAD 4; ADD; LOAD 5; ADD; ADD"
+        + "; RETURN");
     Check.due("six LOCALS, GUARDED", 63, x.run(0, 0, 0, 99, true));
     Check.faultless("six LOCALS", x);
     Check.due("six LOCALS", 63, x.run(0, 0, 0, 99, false));

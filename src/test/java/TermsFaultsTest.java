@@ -318,6 +318,10 @@ public final class TermsFaultsTest {
       faulty("GET " + x, 5, 1, some("NEW 5; GET " + x + "; RETURN"));
       faulty("SET " + x, 5, 2, some("NEW 5; PUSH 1; SET " + x + "; PUSH 1; RETURN"));
     }
+    for (int x = -31; x < 0; x++) {
+      faulty("GET " + x + " of three FIELDS", 5, 1, world("LOAD 0; GET " + x + "; RETURN"));
+      faulty("SET " + x + " of three FIELDS", 5, 2, world("LOAD 0; PUSH 1; SET " + x + "; PUSH 1; RETURN"));
+    }
     fine("GET 160", some("NEW 5; GET 160; RETURN"));
     fine("SET 160", some("NEW 5; PUSH 1; SET 160; PUSH 1; RETURN"));
   }
@@ -326,6 +330,9 @@ public final class TermsFaultsTest {
   private static void methods() {
     for (int x : new int[] {Integer.MIN_VALUE, -20, -4, -1, 1, 3, 4, 11, 19, 21, 22, 24, 27, Integer.MAX_VALUE}) {
       faulty("CALL " + x, 5, 1, some("NEW 5; CALL " + x + "; RETURN"));
+    }
+    for (int x = -3; x < 0; x++) {
+      faulty("CALL " + x + " of four METHODS", 5, 1, world("LOAD 0; CALL " + x + "; RETURN"));
     }
     fine("CALL 23", some("NEW 5; CALL 23; RETURN"));
     fine("CALL 20, from above", some("NEW 5; LOAD 1; LOAD 2; CALL 20; RETURN"));

@@ -18,6 +18,8 @@ public final class TermsInstructionsTest {
     casts();
     throwsObjects();
     rowsOfNoneToEight();
+    rowsAreZeroAgain();
+    nothingBesideIsChanged();
     edgesOfRows();
     same();
     nullIsMissing();
@@ -108,17 +110,17 @@ public final class TermsInstructionsTest {
     gives(less, 22, MIN, 0);
     gives(less, 11, MIN, MIN);
     gives("GOTO 3; PUSH 11; RETURN; PUSH 22; RETURN", 22, 0, 0);
-    String isNull = "; ISNULL 4; PUSH 11; RETURN; PUSH 22; RETURN";
-    gives("PUSH 1; EMPTY; ISNULL 5; PUSH 11; RETURN; PUSH 22; RETURN", 22, 0, 0);
-    gives("PUSH 1; LOAD 0" + isNull.replace("4", "5"), 11, 0, 0);
-    gives("PUSH 0; ROW" + isNull.replace("4", "5"), 11, 0, 0);
-    gives("LOAD 0; GET 1" + isNull.replace("4", "5"), 22, 0, 0);
+    String isNull = "; ISNULL 5; PUSH 11; RETURN; PUSH 22; RETURN";
+    gives("PUSH 1; EMPTY" + isNull, 22, 0, 0);
+    gives("PUSH 1; LOAD 0" + isNull, 11, 0, 0);
+    gives("PUSH 0; ROW" + isNull, 11, 0, 0);
+    gives("LOAD 0; GET 1" + isNull, 22, 0, 0);
   }
 
   /** "NEW: an OBJECT of class x, its FIELDS 0 or null", anew in each RUNNING. */
   private static void newFieldsAreZeroOrNull() {
-    JavaChain x = world("NEW 4; STORE 3; LOAD 3; LOAD 1; SET 0; LOAD 3; PUSH 2; ROW; SET 1; LOAD 3; LOAD 0; SET 2; NEW 4"
-        + "; DROP; LOAD 1; RETURN");
+    JavaChain x = world("NEW 4; STORE 3; LOAD 3; LOAD 1; SET 0; LOAD 3; PUSH 2; ROW; SET 1; LOAD 3; LOAD 0; SET 2"
+        + "; NEW 4; DROP; LOAD 1; RETURN");
     for (int turn = 0; turn < 2; turn++) {
       x.run(0, 5, 0, 400, true);
       Check.due("the first: 0", 0, x.heap(0, 0));
@@ -146,27 +148,16 @@ public final class TermsInstructionsTest {
 
   /** "the METHOD of o's own class for that SLOT is done with these; its RESULT" */
   private static void callsByOwnClass() {
-    JavaChain x = Write.single(Write.NONE, Write.NONE, 10, "LOAD 0; RETURN");
-    Write.belowZero(x);
-    for (int k : new int[] {0, 1, 3}) {
-      x.method(k, 3, Write.INT, Write.INT, Write.INT);
-      Write.code(x, k, 3, "LOAD 1; LOAD 2; SUB; PUSH " + (k + 1) + "; MUL; RETURN");
-    }
     int[] want = {4, 8, 8, 16, 4};
-    x.method(5, 0, Write.INT, Write.INT, Write.INT);
-    Write.code(x, 5, 0, "LOAD 0; LOAD 1; LOAD 2; CALL 21; RETURN");
-    x.method(5, 1, Write.INT, Write.INT, Write.INT);
-    Write.code(x, 5, 1, "PUSH -1; RETURN");
-    Check.faultless("METHODS", x);
-    Check.due("by its own class", -1, x.run(5, 9, 5, 99, false));
     for (int k = 0; k < 5; k++) {
-      JavaChain y = dispatch(k);
-      Check.due("a METHOD for SLOT 3 of class " + k, want[k], y.run(5, 9, 5, 99, true));
-      Check.faultless("CALL by class 0", y);
-      Check.due("the same, not GUARDED", want[k], y.run(5, 9, 5, 99, false));
+      JavaChain x = dispatch(k);
+      Check.due("the METHOD of class " + k + " for SLOT 3", want[k], x.run(5, 9, 5, 99, true));
+      Check.faultless("CALL by class 0", x);
+      Check.due("the same, not GUARDED", want[k], x.run(5, 9, 5, 99, false));
     }
   }
 
+  /** Classes 0, 1 and 3 have METHODS of their own for SLOT 3; class 5 CALLS it by class 0. */
   private static JavaChain dispatch(int made) {
     JavaChain x = Write.family();
     for (int k : new int[] {0, 1, 3}) {
@@ -223,6 +214,44 @@ public final class TermsInstructionsTest {
     }
     JavaChain none = world("PUSH 9; ROW; SIZE; RETURN");
     Check.ends("no ROW is made", none, 99, true, 3, 0, 2, 1);
+  }
+
+  /** A ROW is "of n ints 0" wherever an earlier RUNNING had another ROW or an OBJECT. */
+  private static void rowsAreZeroAgain() {
+    JavaChain x = world("PUSH 8; ROW; STORE 3; LOAD 2; ZERO 9; LOAD 3; LOAD 1; LOAD 2; TO; PUSH 1; RETURN");
+    for (int i = 0; i < 8; i++) {
+      x.run(0, i, 9, 99, true);
+      Check.due("int " + i + " is put", 9, x.heap(1, i));
+      x.run(0, i, 0, 99, true);
+      for (int j = 0; j < 8; j++) {
+        Check.due("int " + j + " of a new ROW", 0, x.heap(1, j));
+      }
+    }
+    JavaChain y = world("LOAD 1; ZERO 7; NEW 0; PUSH 6; SET 0; PUSH 1; RETURN; PUSH 3; ROW; DROP; PUSH 1; RETURN");
+    Check.due("an OBJECT", 1, y.run(0, 1, 0, 99, true));
+    Check.due("its FIELD", 6, y.heap(1, 0));
+    Check.due("a ROW", 1, y.run(0, 0, 0, 99, true));
+    Check.due("its first int", 0, y.heap(1, 0));
+    Check.due("its second int", 0, y.heap(1, 1));
+  }
+
+  /** What is made next leaves the last FIELD of an OBJECT of 18 and the last int of a ROW of 8 alone. */
+  private static void nothingBesideIsChanged() {
+    for (String next : new String[] {"PUSH 8; ROW", "PUSH 0; ROW", "NEW 5", "NEW 0"}) {
+      JavaChain x = Write.eighteen();
+      Write.method(x, 5, 0, "LOAD 0; PUSH 17; SET 177; PUSH 8; ROW; TWICE; PUSH 7; PUSH 70; TO; STORE 3; " + next
+          + "; STORE 4; NEW 5; TWICE; PUSH -1; SET 160; TWICE; PUSH -2; SET 177; DROP; PUSH 1; RETURN");
+      Check.due("made", 1, x.run(5, 0, 0, 99, true));
+      Check.due("FIELD 17 of the first, then " + next, 17, x.heap(0, 17));
+      Check.due("int 7 of the ROW, then " + next, 70, x.heap(1, 7));
+      Check.due("FIELD 0 of the last", -1, x.heap(3, 0));
+      Check.due("FIELD 17 of the last", -2, x.heap(3, 17));
+      Check.due("FIELD 16 of the first", 0, x.heap(0, 16));
+      JavaChain y = Write.eighteen();
+      Write.method(y, 5, 0, "LOAD 0; PUSH 17; SET 177; " + next + "; STORE 4; PUSH 1; RETURN");
+      Check.due("made", 1, y.run(5, 0, 0, 99, true));
+      Check.due("FIELD 17 of the first, " + next + " at once", 17, y.heap(0, 17));
+    }
   }
 
   /** "AT r, i: int i of it; TO r, i, v: it is v; there is none: BOUNDS" */

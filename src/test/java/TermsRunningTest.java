@@ -63,7 +63,7 @@ public final class TermsRunningTest {
     Check.ends("made", made, 2, true, 5, 0, 2, 2);
   }
 
-  /** FUEL 400: a loop of 4 INSTRUCTIONS, then a RESULT with the last of it. */
+  /** FUEL 400: a loop, then a RESULT with the last of it. */
   private static void mostFuel() {
     JavaChain x = Write.ints("LOAD 1; PUSH 1; SUB; STORE 1; LOAD 1; ZERO 7; GOTO 0; LOAD 2; RETURN");
     // Each turn but the last is 7, the last 6, and 2 behind.
@@ -97,7 +97,8 @@ public final class TermsRunningTest {
   }
 
   private static void methodsOneAfterAnother() {
-    JavaChain x = Write.ints("LOAD 1; ZERO 10; LOAD 0; CALL 1; DROP; LOAD 1; PUSH 1; SUB; STORE 1; GOTO 0; LOAD 2; RETURN");
+    JavaChain x = Write.ints("LOAD 1; ZERO 10; LOAD 0; CALL 1; DROP; LOAD 1; PUSH 1; SUB; STORE 1; GOTO 0; LOAD 2"
+        + "; RETURN");
     Write.method(x, 0, 1, "PUSH 1; RETURN");
     Check.due("30 METHODS, one after another", 9, x.run(0, 30, 9, 400, true));
   }
@@ -159,8 +160,8 @@ public final class TermsRunningTest {
 
   /** With 12 METHODS under way a CALL of null is MISSING, for none would be done. */
   private static void missingBeforeTooMuch() {
-    JavaChain x = Write.ints("LOAD 1; ZERO 8; LOAD 0; LOAD 1; PUSH 1; SUB; LOAD 2; GOTO 11; EMPTY; LOAD 1; LOAD 2; CALL 0"
-        + "; RETURN");
+    JavaChain x = Write.ints("LOAD 1; ZERO 8; LOAD 0; LOAD 1; PUSH 1; SUB; LOAD 2; GOTO 11; EMPTY; LOAD 1; LOAD 2"
+        + "; CALL 0; RETURN");
     Check.thrown("null", Check.STATE, () -> x.run(0, 11, 0, 400, true));
     Check.outcome("null", x, 2, 0, 9 * 11 + 6, 1);
   }

@@ -1,9 +1,13 @@
+import java.util.function.IntFunction;
 import java.util.function.ToIntFunction;
 
 /** Terms: what is thrown, in its order, and that a call that throws changes nothing, but as said. */
 public final class TermsThrownTest {
   private static final int MIN = Integer.MIN_VALUE;
   private static final int MAX = Integer.MAX_VALUE;
+  private static final int[] NO_CLASS = {MIN, -1, 6, MAX};
+  private static final int[] NO_SLOT = {MIN, -1, 4, MAX};
+  private static final int[] NO_TYPE = {MIN, -2, 2, 3, 9, 16, MAX};
 
   public static void main(String[] args) {
     define();
@@ -52,15 +56,11 @@ public final class TermsThrownTest {
     Check.due(what + ": still VERIFIED", 42, x.run(0, 42, 3, 99, false));
   }
 
-  private static void outOfRange(int[] numbers, String what, java.util.function.IntFunction<ToIntFunction<JavaChain>> call) {
+  private static void outOfRange(int[] numbers, String what, IntFunction<ToIntFunction<JavaChain>> call) {
     for (int number : numbers) {
       refused(what + " " + number, Check.RANGE, call.apply(number));
     }
   }
-
-  private static final int[] NO_CLASS = {MIN, -1, 6, MAX};
-  private static final int[] NO_SLOT = {MIN, -1, 4, MAX};
-  private static final int[] NO_TYPE = {MIN, -2, 2, 3, 9, 16, MAX};
 
   private static void define() {
     outOfRange(NO_CLASS, "define k", k -> x -> x.define(k, -1));

@@ -116,7 +116,8 @@ public final class TermsTypesTest {
     x.define(0, -1);
     x.define(1, -1);
     x.field(1, 14);
-    Write.method(x, 0, 0, "NEW 1; EMPTY; SET 32; NEW 1; GET 32; STORE 3; PUSH 0; ZERO 10; NEW 0; STORE 3; PUSH 0; RETURN");
+    Write.method(x, 0, 0, "NEW 1; EMPTY; SET 32; NEW 1; GET 32; STORE 3; PUSH 0; ZERO 10; NEW 0; STORE 3; PUSH 0"
+        + "; RETURN");
     Check.faultless("a FIELD of a class without METHODS", x);
     Check.due("its TYPE", 14, x.map(0, 0, 6, 3));
     Check.due("JOIN with another one", -1, x.map(0, 0, 10, 3));

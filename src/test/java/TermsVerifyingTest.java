@@ -4,6 +4,7 @@ public final class TermsVerifyingTest {
     firstMap();
     methodsInOrder();
     leastFirst();
+    faultsBeforeAnythingIsGiven();
     catchersBeforeNext();
     catchersInOrder();
     jumpBeforeBehind();
@@ -89,6 +90,20 @@ public final class TermsVerifyingTest {
     map("x has its MAP", caught, 2, 10, 0, 0, -1, -1, -1, 0, -1, -1, -1, -1, -1);
     JavaChain loop = world("PUSH 1; STORE 3; LOAD 3; DROP; EMPTY; STORE 3; LOAD 1; ZERO 2; ADD; RETURN");
     Check.fault("what is new again before what is new", 2, 2, loop);
+  }
+
+  /** FAULTS 4, 5, 1 and 2 come before 3, which is found when something is given: so nothing is given then. */
+  private static void faultsBeforeAnythingIsGiven() {
+    String[] faulty = {"ZERO 9", "CAST 9", "ADD", "SIZE"};
+    int[] why = {4, 5, 1, 2};
+    for (int i = 0; i < faulty.length; i++) {
+      JavaChain x = world("PUSH 1; " + faulty[i] + "; DROP; PUSH 1; RETURN; PUSH 1; RETURN");
+      x.catcher(0, 0, Write.span(1, 2), 5, Write.ALL);
+      Check.fault(faulty[i], why[i], 1, x);
+      noMap("the one behind " + faulty[i], x, 2);
+      noMap("TARGET of " + faulty[i], x, 5);
+      map("it has its own", x, 1, 10, 0, 0, -1, -1, -1, 1, 0, -1, -1, -1, -1);
+    }
   }
 
   /** "first, for each CATCHER around it, TARGET gets": so it is the one behind that does not fit. */

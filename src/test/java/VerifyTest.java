@@ -420,6 +420,9 @@ public final class VerifyTest {
     Check.due("VERIFIED", 1, fine.run(0, 0, 0, 9, false));
     fine.catcher(0, 0, Write.span(1, 2), 2, Write.ALL);
     due("a CATCHER leads to a FAULT", 1, 2, fine);
+    JavaChain waits = Write.ints("LOAD 1; ZERO 8; GOTO 5; DROP; GOTO 0; PUSH 7; LOAD 1; ZERO 3; PUSH 1; RETURN");
+    due("INSTRUCTION 3 is new when the FAULT is found", 3, 7, waits);
+    due("but it has no MAP when the next VERIFYING begins", 3, 7, waits);
     Check.thrown("nothing is VERIFIED", Check.SUPPORT, () -> fine.run(0, 0, 0, 9, false));
     Check.due("GUARDED it runs all the same", 1, fine.run(0, 0, 0, 9, true));
   }

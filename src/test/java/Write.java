@@ -131,6 +131,18 @@ final class Write {
     return x;
   }
 
+  /** A chain with three FIELDS that are INT in each class, 18 in the last. */
+  static JavaChain eighteen() {
+    JavaChain x = new JavaChain();
+    for (int k = 0; k < 6; k++) {
+      x.define(k, k - 1);
+      x.field(k, INT);
+      x.field(k, INT);
+      x.field(k, INT);
+    }
+    return x;
+  }
+
   /** One class 0 whose METHOD 0 takes two ints and answers one. */
   static JavaChain ints(int... pairs) {
     return single(INT, INT, INT, pairs);
