@@ -9,19 +9,24 @@ import java.util.TreeSet;
 
 /** The public face: what the document lists and nothing else. */
 public final class FaceTest {
+  private static final String RANGE = " IllegalArgumentException";
+  private static final String NOT_THERE = " NoSuchElementException";
+  private static final String STATE = " IllegalStateException";
+  private static final String SUPPORT = " UnsupportedOperationException";
+  private static final String INDEX = " IndexOutOfBoundsException";
   private static final List<String> FACE = List.of(
-      "about(int, int)",
-      "catcher(int, int, int, int, int)",
-      "code(int, int, int, int)",
-      "define(int, int)",
+      "about(int, int)" + RANGE,
+      "catcher(int, int, int, int, int)" + RANGE + NOT_THERE + STATE,
+      "code(int, int, int, int)" + RANGE + NOT_THERE + STATE,
+      "define(int, int)" + RANGE + STATE,
       "fault(boolean)",
-      "field(int, int)",
-      "heap(int, int)",
-      "map(int, int, int, int)",
-      "method(int, int, int, int, int)",
-      "outcome(int)",
-      "run(int, int, int, int, boolean)",
-      "verify()");
+      "field(int, int)" + RANGE + NOT_THERE + STATE,
+      "heap(int, int)" + INDEX,
+      "map(int, int, int, int)" + RANGE + NOT_THERE,
+      "method(int, int, int, int, int)" + RANGE + NOT_THERE + STATE,
+      "outcome(int)" + RANGE,
+      "run(int, int, int, int, boolean)" + RANGE + NOT_THERE + STATE + SUPPORT + INDEX,
+      "verify()" + SUPPORT);
 
   public static void main(String[] args) {
     Check.due("public final class", Modifier.PUBLIC | Modifier.FINAL, JavaChain.class.getModifiers());
@@ -48,8 +53,7 @@ public final class FaceTest {
     TreeSet<String> names = new TreeSet<>();
     for (Method m : JavaChain.class.getDeclaredMethods()) {
       if (Modifier.isPublic(m.getModifiers())) {
-        String types = Arrays.toString(m.getParameterTypes());
-        seen.add(m.getName() + "(" + types.substring(1, types.length() - 1) + ")");
+        seen.add(written(m));
         names.add(m.getName());
         Check.due("answers an int: " + m.getName(), 1, m.getReturnType() == int.class ? 1 : 0);
       }
@@ -63,6 +67,16 @@ public final class FaceTest {
         Check.due("no name of the face: " + m.getName(), 0, names.contains(m.getName()) ? 1 : 0);
       }
     }
+  }
+
+  private static String written(Method m) {
+    String types = Arrays.toString(m.getParameterTypes());
+    StringBuilder written = new StringBuilder(m.getName());
+    written.append("(").append(types, 1, types.length() - 1).append(")");
+    for (Class<?> exception : m.getExceptionTypes()) {
+      written.append(" ").append(exception.getSimpleName());
+    }
+    return written.toString();
   }
 
   private static void isPrivate(Member m) {
